@@ -1,0 +1,76 @@
+import java.lang.reflect.Constructor;
+import java.lang.reflect.Field;
+import java.lang.reflect.Method;
+import java.lang.reflect.Modifier;
+import java.util.Arrays;
+import java.util.Set;
+import java.util.TreeSet;
+
+/** The public face of the document, and rule 1 of LANGUAGE.md: no other member can be seen from outside. */
+public final class FaceTest {
+    private static final String[] FACE = {
+        "int FULL", "int REFUSED", "long FAILED", "long NONE", "long TOO_DEEP", "long UNEXPECTED",
+        "MockBook()",
+        "int matcher(int, int)", "void drop()", "int rule(int, int)", "int then(int, int, int)",
+        "int strict(int, boolean)", "long call(int, int, int, int, int)", "int verify(int, int, int, int)",
+        "int inOrder(int, int)", "int rewind()", "int open(int)", "int unused()", "int reset(int)",
+        "long noted(int, int)", "long answer(int)", "int about(int, int)", "int count(int)",
+    };
+
+    public static void main(String[] args) {
+        Due due = new Due();
+        theFace(due);
+        namesOfPrivateMethods(due);
+        staticFields(due);
+        due.end();
+    }
+
+    private static String parameters(Class<?>[] types) {
+        String[] names = Arrays.stream(types).map(Class::getName).toArray(String[]::new);
+        return "(" + String.join(", ", names) + ")";
+    }
+
+    private static void theFace(Due due) {
+        Set<String> seen = new TreeSet<>();
+        for (Field field : MockBook.class.getDeclaredFields()) {
+            if (!Modifier.isPrivate(field.getModifiers())) {
+                seen.add(field.getType().getName() + " " + field.getName());
+                due.is("modifiers of " + field.getName(), field.getModifiers(),
+                    Modifier.PUBLIC | Modifier.STATIC | Modifier.FINAL);
+            }
+        }
+        for (Constructor<?> constructor : MockBook.class.getDeclaredConstructors()) {
+            seen.add("MockBook" + parameters(constructor.getParameterTypes()));
+            due.is("modifiers of the constructor", constructor.getModifiers(), Modifier.PUBLIC);
+        }
+        for (Method method : MockBook.class.getDeclaredMethods()) {
+            if (!Modifier.isPrivate(method.getModifiers())) {
+                seen.add(method.getReturnType().getName() + " " + method.getName()
+                    + parameters(method.getParameterTypes()));
+                due.is("modifiers of " + method.getName(), method.getModifiers(), Modifier.PUBLIC);
+            }
+        }
+        due.holds("the face " + seen, seen.equals(new TreeSet<>(Arrays.asList(FACE))));
+        due.is("modifiers of the class", MockBook.class.getModifiers(), Modifier.PUBLIC | Modifier.FINAL);
+    }
+
+    private static void namesOfPrivateMethods(Due due) {
+        Set<String> open = new TreeSet<>();
+        for (Method method : MockBook.class.getMethods()) {
+            open.add(method.getName());
+        }
+        for (Method method : MockBook.class.getDeclaredMethods()) {
+            if (Modifier.isPrivate(method.getModifiers())) {
+                due.holds("a name of its own for " + method.getName(), !open.contains(method.getName()));
+            }
+        }
+    }
+
+    private static void staticFields(Due due) {
+        for (Field field : MockBook.class.getDeclaredFields()) {
+            if (Modifier.isStatic(field.getModifiers())) {
+                due.holds("final " + field.getName(), Modifier.isFinal(field.getModifiers()));
+            }
+        }
+    }
+}
