@@ -1,6 +1,14 @@
-/** What several tests do with a book. */
+/** What several tests do with a book. No test uses one book for more than the 512 calls of the document. */
 final class Books {
+    static final int LEAST = Integer.MIN_VALUE;
+    static final int GREATEST = Integer.MAX_VALUE;
+
     private Books() {
+    }
+
+    /** Numbers on both sides of a range: the nearest, some that a remainder would bring back into it, the farthest. */
+    static int[] outside(int least, int greatest) {
+        return new int[] {LEAST, least - 32, least - 4, least - 1, greatest + 1, greatest + 4, greatest + 32, GREATEST};
     }
 
     static void anyMatchers(MockBook book, int howMany) {
@@ -21,29 +29,23 @@ final class Books {
         }
     }
 
-    /** All that can be seen of a book without changing it: all but the mark and what kinds the buffer holds. */
-    static String seen(MockBook book) {
-        StringBuilder text = new StringBuilder();
-        for (int what = 0; what <= 5; what++) {
-            text.append(book.count(what)).append(' ');
+    static void rulesOften(MockBook book, int times, int mock) {
+        for (int i = 0; i < times; i++) {
+            book.rule(mock, 0);
         }
-        for (int number = 0; number < book.count(0); number++) {
-            text.append('\n').append(book.answer(number));
-            for (int what = 0; what <= 9; what++) {
-                text.append(' ').append(book.noted(number, what));
-            }
-        }
-        for (int rule = 0; rule < book.count(3); rule++) {
-            text.append('\n');
-            for (int what = 0; what <= 2; what++) {
-                text.append(book.about(rule, what)).append(' ');
-            }
-        }
-        for (int mock = 0; mock <= 3; mock++) {
-            int before = book.strict(mock, true);
-            book.strict(mock, before == 1);
-            text.append('\n').append(before).append(' ').append(book.open(mock));
-        }
-        return text.append('\n').append(book.unused()).toString();
+    }
+
+    /** A book with one rule, for every call of the method, that has this one action. */
+    static MockBook withAction(int mock, int method, int kind, int value) {
+        MockBook book = new MockBook();
+        book.then(ruleForAll(book, mock, method), kind, value);
+        return book;
+    }
+
+    /** A book with this one interaction. */
+    static MockBook withCall(int mock, int method, int a, int b, int c) {
+        MockBook book = new MockBook();
+        book.call(mock, method, a, b, c);
+        return book;
     }
 }

@@ -18,11 +18,11 @@ public final class FaceTest {
     };
 
     public static void main(String[] args) {
-        Due due = new Due();
-        theFace(due);
-        namesOfPrivateMethods(due);
-        staticFields(due);
-        due.end();
+        Sentences face = new Sentences();
+        face.says("The public face", FaceTest::theFace);
+        face.says("LANGUAGE.md 1: No private method bears the name of a public one", FaceTest::namesOfPrivateMethods);
+        face.says("LANGUAGE.md 5: Static fields are final", FaceTest::staticFields);
+        face.end();
     }
 
     private static String parameters(Class<?>[] types) {

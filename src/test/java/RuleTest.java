@@ -1,111 +1,91 @@
-/** Promise 4: rule, and which rule a call has. */
+/** Promise 4: rule. Which rule a call has is looked at in TermsRulesTest. */
 public final class RuleTest {
     public static void main(String[] args) {
-        Due due = new Due();
-        numbersGoUp(due);
-        theBufferMustSuit(due);
-        outOfRange(due);
-        atMost24(due);
-        fullLeavesTheBuffer(due);
-        theGreatestFittingRule(due);
-        onlyItsMockAndMethod(due);
-        theBufferIsTheRulesOwn(due);
-        due.end();
+        Sentences promise = new Sentences();
+        promise.says("Makes a rule for the mock and the method from the buffer", RuleTest::makes);
+        promise.says("which is empty then", RuleTest::emptyThen);
+        promise.says("answers its number", RuleTest::itsNumber);
+        promise.says("Mock not 0 .. 3", RuleTest::wrongMocks);
+        promise.says("method not 0 .. 7: REFUSED", RuleTest::wrongMethods);
+        promise.says("The buffer doesn't suit the method: REFUSED", RuleTest::unsuited);
+        promise.says("24 rules were made: FULL", RuleTest::full);
+        promise.end();
     }
 
-    private static void numbersGoUp(Due due) {
-        MockBook book = new MockBook();
-        for (int method = 0; method < 8; method++) {
-            Books.anyMatchers(book, method % 4);
-            due.is("rule(3, " + method + ")", book.rule(3, method), method);
-            due.is("count(5) after rule", book.count(5), 0);
-            due.is("about(" + method + ", 0)", book.about(method, 0), 0);
-            due.is("about(" + method + ", 1)", book.about(method, 1), 0);
-            due.is("about(" + method + ", 2)", book.about(method, 2), 1);
+    private static void makes(Due due) {
+        for (int method = 0; method <= 7; method++) {
+            MockBook book = new MockBook();
+            for (int i = 0; i < method % 4; i++) {
+                book.matcher(1, 10 + i);
+            }
+            book.rule(3, method);
+            due.is("count(3)", book.count(3), 1);
+            due.is("about(0, 0)", book.about(0, 0), 0);
+            due.is("about(0, 1)", book.about(0, 1), 0);
+            due.is("about(0, 2)", book.about(0, 2), 1);
+            book.call(3, method, 10, 11, 12);
+            book.call(3, method, 0, 0, 0);
+            due.is("rule of a call that fits", book.noted(0, 8), 0);
+            due.is("rule of another call", book.noted(1, 8), method % 4 == 0 ? 0 : -1);
         }
-        due.is("count(3)", book.count(3), 8);
     }
 
-    private static void theBufferMustSuit(Due due) {
-        for (int held = 0; held <= 3; held++) {
-            for (int method = 0; method < 8; method++) {
-                MockBook book = new MockBook();
-                Books.anyMatchers(book, held);
-                boolean suits = method % 4 == held;
-                due.is("rule(0, " + method + ") with " + held, book.rule(0, method), suits ? 0 : MockBook.REFUSED);
-                due.is("count(5) then", book.count(5), suits ? 0 : held);
-                due.is("count(3) then", book.count(3), suits ? 1 : 0);
+    private static void emptyThen(Due due) {
+        for (int method = 0; method <= 7; method++) {
+            MockBook book = new MockBook();
+            Books.ruleForAll(book, 1, method);
+            due.is("count(5) after rule(1, " + method + ")", book.count(5), 0);
+            due.is("matcher after it", book.matcher(0, 0), 1);
+        }
+    }
+
+    private static void itsNumber(Due due) {
+        MockBook book = new MockBook();
+        for (int i = 0; i < 24; i++) {
+            due.is("rule " + i, Books.ruleForAll(book, i % 4, 7 - i % 8), i);
+        }
+        MockBook reset = new MockBook();
+        reset.rule(0, 0);
+        reset.reset(0);
+        due.is("rule after a reset", reset.rule(0, 0), 1);
+    }
+
+    private static void wrongMocks(Due due) {
+        for (int mock : Books.outside(0, 3)) {
+            for (int method = 0; method <= 3; method++) {
+                int tried = method;
+                State.allRefuse(due, "rule(" + mock + ", " + method + ")", book -> book.rule(mock, tried), -1);
             }
         }
     }
 
-    private static void outOfRange(Due due) {
-        MockBook book = new MockBook();
-        int[][] wrong = {{-1, 0}, {4, 0}, {0, -1}, {0, -4}, {0, 8}, {Integer.MIN_VALUE, 0}, {Integer.MAX_VALUE, 0},
-            {0, Integer.MIN_VALUE}, {0, Integer.MAX_VALUE}};
-        for (int[] place : wrong) {
-            due.is("rule(" + place[0] + ", " + place[1] + ")", book.rule(place[0], place[1]), MockBook.REFUSED);
+    private static void wrongMethods(Due due) {
+        for (int method : Books.outside(0, 7)) {
+            State.allRefuse(due, "rule(0, " + method + ")", book -> book.rule(0, method), -1);
+            State.allRefuse(due, "rule(3, " + method + ")", book -> book.rule(3, method), -1);
         }
-        due.is("count(3) after refused rules", book.count(3), 0);
     }
 
-    private static void atMost24(Due due) {
-        MockBook book = new MockBook();
-        for (int i = 0; i < 24; i++) {
-            due.is("rule " + i, book.rule(i % 4, 0), i);
+    private static void unsuited(Due due) {
+        for (State state : State.values()) {
+            for (int method = 0; method <= 7; method++) {
+                if (method % 4 != state.held) {
+                    int tried = method;
+                    state.refuses(due, "rule(2, " + method + ")", book -> book.rule(2, tried), -1);
+                }
+            }
         }
-        due.is("rule 24", book.rule(0, 0), MockBook.FULL);
-        due.is("rule out of range when full", book.rule(4, 0), MockBook.REFUSED);
-        due.is("rule that doesn't suit when full", book.rule(0, 1), MockBook.REFUSED);
+    }
+
+    private static void full(Due due) {
+        State.FULL.refuses(due, "rule(0, 3)", book -> book.rule(0, 3), -2);
+        State.FULL.refuses(due, "rule(3, 7)", book -> book.rule(3, 7), -2);
+        MockBook book = new MockBook();
+        Books.rulesOften(book, 23, 0);
+        due.is("rule when 23 were made", book.rule(0, 0), 23);
+        due.is("rule when 24 were made", book.rule(0, 0), -2);
         book.reset(0);
-        due.is("rule 24 after a reset", book.rule(0, 0), MockBook.FULL);
-        due.is("count(3) when full", book.count(3), 24);
-    }
-
-    private static void fullLeavesTheBuffer(Due due) {
-        MockBook book = new MockBook();
-        for (int i = 0; i < 24; i++) {
-            book.rule(0, 0);
-        }
-        book.call(1, 2, 3, 4, 0);
-        book.call(1, 2, 3, 5, 0);
-        book.matcher(1, 3);
-        book.matcher(1, 4);
-        due.is("rule(1, 2) when full", book.rule(1, 2), MockBook.FULL);
-        due.is("count(5) after FULL", book.count(5), 2);
-        due.is("verify by the buffer that stayed", book.verify(1, 2, 0, 1), 1);
-    }
-
-    private static void theGreatestFittingRule(Due due) {
-        MockBook book = new MockBook();
-        int[][] matchers = {{0, 0}, {4, 10}, {4, 20}, {1, 15}};
-        for (int i = 0; i < matchers.length; i++) {
-            book.matcher(matchers[i][0], matchers[i][1]);
-            book.then(book.rule(1, 5), 0, 100 + i);
-        }
-        due.is("call that fits rule 0 alone", book.call(1, 5, 10, 0, 0), 100);
-        due.is("call that fits rules 0 and 1", book.call(1, 5, 11, 0, 0), 101);
-        due.is("call that fits rules 0, 1 and 2", book.call(1, 5, 21, 0, 0), 102);
-        due.is("call that fits rules 0, 1 and 3", book.call(1, 5, 15, 0, 0), 103);
-    }
-
-    private static void onlyItsMockAndMethod(Due due) {
-        MockBook book = new MockBook();
-        book.then(book.rule(1, 4), 0, 9);
-        due.is("call of the same method of another mock", book.call(0, 4, 0, 0, 0), 0);
-        due.is("call of another method of the same mock", book.call(1, 0, 0, 0, 0), 0);
-        due.is("call of the rule's method", book.call(1, 4, 0, 0, 0), 9);
-    }
-
-    private static void theBufferIsTheRulesOwn(Due due) {
-        MockBook book = new MockBook();
-        book.matcher(1, 7);
-        book.then(book.rule(0, 1), 0, 70);
-        book.matcher(1, 8);
-        due.is("call after another matcher", book.call(0, 1, 7, 0, 0), 70);
-        book.then(book.rule(0, 1), 0, 80);
-        book.drop();
-        due.is("call by the first rule", book.call(0, 1, 7, 0, 0), 70);
-        due.is("call by the second rule", book.call(0, 1, 8, 0, 0), 80);
+        due.is("rule when 24 were made, none of them live", book.rule(0, 0), -2);
+        due.is("count(3)", book.count(3), 24);
     }
 }
