@@ -115,7 +115,8 @@ public final class VerifyTest {
         due.is("verify of none", book.verify(0, 0, 0, 0), 0);
         for (int made = 1; made <= 160; made++) {
             book.call(0, 0, 0, 0, 0);
-            due.is("verify of " + made, book.verify(0, 0, 1, made), made);
+            due.is("verify of at least 0 of " + made, book.verify(0, 0, 1, 0), made);
+            due.is("verify of at most 160 of " + made, book.verify(0, 0, 2, 160), made);
         }
     }
 
