@@ -13,7 +13,8 @@ public final class TermsCallsTest {
         terms.says("any other gives 0", TermsCallsTest::otherMocks);
         terms.says("A PASS in a call of depth 3 .. calls and notes nothing more: the answer is TOO_DEEP",
             TermsCallsTest::passAtDepth3);
-        terms.says("A PASS in a call of depth 3 (any other action is done there)", TermsCallsTest::otherActionsAtDepth3);
+        terms.says("A PASS in a call of depth 3 (any other action is done there)",
+            TermsCallsTest::otherActionsAtDepth3);
         terms.says("A PASS in a call of depth 3 (not 2, 1, 0)", TermsCallsTest::passAboveDepth3);
         terms.says("or when 160 interactions were noted", TermsCallsTest::passWithoutRoom);
         terms.says("when 160 interactions were noted (not 159)", TermsCallsTest::passIntoTheLastPlace);
