@@ -20,8 +20,10 @@ public final class FaceTest {
     public static void main(String[] args) {
         Sentences face = new Sentences();
         face.says("The public face", FaceTest::theFace);
+        face.says("each constant with its value", FaceTest::theConstants);
+        face.says("LANGUAGE.md 1: the classes inside it, which are private or package-visible and static",
+            FaceTest::classesInside);
         face.says("LANGUAGE.md 1: No private method bears the name of a public one", FaceTest::namesOfPrivateMethods);
-        face.says("LANGUAGE.md 5: Static fields are final", FaceTest::staticFields);
         face.end();
     }
 
@@ -66,11 +68,22 @@ public final class FaceTest {
         }
     }
 
-    private static void staticFields(Due due) {
-        for (Field field : MockBook.class.getDeclaredFields()) {
-            if (Modifier.isStatic(field.getModifiers())) {
-                due.holds("final " + field.getName(), Modifier.isFinal(field.getModifiers()));
-            }
+    private static void classesInside(Due due) {
+        due.is("classes that can be seen from outside", MockBook.class.getClasses().length, 0);
+        for (Class<?> inside : MockBook.class.getDeclaredClasses()) {
+            int modifiers = inside.getModifiers();
+            due.holds("private or package-visible " + inside.getName(),
+                !Modifier.isPublic(modifiers) && !Modifier.isProtected(modifiers));
+            due.holds("static " + inside.getName(), Modifier.isStatic(modifiers));
         }
+    }
+
+    private static void theConstants(Due due) {
+        due.is("REFUSED", MockBook.REFUSED, -1);
+        due.is("FULL", MockBook.FULL, -2);
+        due.is("UNEXPECTED", MockBook.UNEXPECTED, 20000000000L);
+        due.is("TOO_DEEP", MockBook.TOO_DEEP, 20000000001L);
+        due.is("FAILED", MockBook.FAILED, 40000000000L);
+        due.is("NONE", MockBook.NONE, 60000000000L);
     }
 }

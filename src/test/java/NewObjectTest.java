@@ -6,7 +6,6 @@ public final class NewObjectTest {
         promise.says("the state that the terms give: no mock is strict", NewObjectTest::noMockIsStrict);
         promise.says("the state that the terms give: the mark is -1", NewObjectTest::noMark);
         promise.says("makes an object (of its own)", NewObjectTest::objectsShareNothing);
-        promise.says("the constants of the public face", NewObjectTest::theConstants);
         promise.end();
     }
 
@@ -61,14 +60,5 @@ public final class NewObjectTest {
             due.is("call beside a used one", other.call(0, 0, 0, 0, 0), 0);
         }
         due.is("count(0) of the used one", used.count(0), 1);
-    }
-
-    private static void theConstants(Due due) {
-        due.is("REFUSED", MockBook.REFUSED, -1);
-        due.is("FULL", MockBook.FULL, -2);
-        due.is("UNEXPECTED", MockBook.UNEXPECTED, 20000000000L);
-        due.is("TOO_DEEP", MockBook.TOO_DEEP, 20000000001L);
-        due.is("FAILED", MockBook.FAILED, 40000000000L);
-        due.is("NONE", MockBook.NONE, 60000000000L);
     }
 }

@@ -25,6 +25,10 @@ enum State {
         this.look = Look.at(maker);
     }
 
+    MockBook book() {
+        return maker.get();
+    }
+
     /** A test that counts on a state must not pass when the book never came into it. */
     private void isReached(Due due) {
         due.is("interactions in the state " + name(), maker.get().count(0), interactions);

@@ -60,7 +60,7 @@ public final class TermsRefusedTest {
         return new Random(seed * 1000L + call).nextInt(KINDS);
     }
 
-    private static MockBook replay(int seed, int calls, long[] answers) {
+    static MockBook replay(int seed, int calls, long[] answers) {
         MockBook book = new MockBook();
         for (int i = 0; i < calls; i++) {
             answers[i] = oneCall(book, new Random(seed * 1000L + i));
